@@ -12,13 +12,20 @@ final class Check {
     private int calls = 0;
     private int wrong = 0;
 
-    /** The answer as text, or the simple name of what the call throws. */
+    /** The answer as text, or the simple name of what the call throws, and a mark where no throw statement did. */
     static String outcome(Call call) {
         try {
             return Long.toString(call.answer());
         } catch (RuntimeException e) {
-            return e.getClass().getSimpleName();
+            return e.getClass().getSimpleName() + (isThrownByStatement(e) ? "" : " of the machine or the library");
         }
+    }
+
+    private static boolean isThrownByStatement(RuntimeException e) {
+        // The library's own throws begin in its classes, and those that the machine throws with speed have no trace.
+        StackTraceElement[] trace = e.getStackTrace();
+        return trace.length > 0 && !trace[0].getClassName().startsWith("java.")
+                && !trace[0].getClassName().startsWith("jdk.");
     }
 
     void due(String what, long want, Call call) {

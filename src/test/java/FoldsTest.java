@@ -61,6 +61,7 @@ public final class FoldsTest {
         check.throwing("fold 12, pull 9", Check.ARGUMENT, () -> page.fold(0, 9, 0));
         check.throwing("angle(12, 0)", Check.INDEX, () -> page.angle(12, 0));
         check.due("angle(11, 77)", 77, () -> page.angle(11, 77));
+        check.due("angleAnew(11, 77)", 77, () -> page.angleAnew(11, 77));
 
         Springleaf bound = new Springleaf();
         bound.part(0, 10, 5, 0, 2, true);

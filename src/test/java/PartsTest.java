@@ -167,6 +167,10 @@ public final class PartsTest {
         // 10 * 8 / 90 is 0, 11 * 8 / 90 is 0; at 9 both rise to 1.
         meets(page, 0, 1, 8, false);
         meets(page, 0, 1, 9, true);
+        // Both must rise: 10 * 6 / 90 is 0, 15 * 6 / 90 is 1.
+        page.resize(2, 15);
+        meets(page, 0, 2, 6, false);
+        meets(page, 0, 2, 9, true);
         // Parts on folds with other angles.
         check.due("rise of part 3 at 90", 1, () -> page.where(3, 90, 0));
         meets(page, 0, 3, 90, false);

@@ -11,6 +11,7 @@ public final class SheetsTest {
         promise10ShelvesGoBeforeNewOnes();
         promise09SheetsFollowLengths();
         promise09MostSheets();
+        promise09MostShelves();
         promise10Throws();
         check.end();
     }
@@ -136,6 +137,18 @@ public final class SheetsTest {
         laid(page, 3, 0, 30, 0);
         laid(page, 4, 1, 0, 0);
         laid(page, 15, 3, 30, 0);
+    }
+
+    private static void promise09MostShelves() {
+        Springleaf page = new Springleaf();
+        for (int number = 0; number < 16; number++) {
+            page.part(0, 0, 30, 0, 10, true);
+        }
+        check.due("sheets() of 16 shelves", 6, () -> page.sheets());
+        laid(page, 2, 0, 0, 20);
+        laid(page, 3, 1, 0, 0);
+        laid(page, 15, 5, 0, 0);
+        check.due("sheets() anew", 6, () -> page.sheets());
     }
 
     private static void promise10Throws() {
