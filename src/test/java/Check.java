@@ -5,6 +5,11 @@ final class Check {
         long answer();
     }
 
+    /** A call of the face on the page that it is given. */
+    interface Use {
+        long on(Springleaf page);
+    }
+
     static final String INDEX = "IndexOutOfBoundsException";
     static final String ARGUMENT = "IllegalArgumentException";
     static final String STATE = "IllegalStateException";
@@ -40,12 +45,23 @@ final class Check {
         compare(what, want, outcome(call));
     }
 
+    /** Holds that the call throws, and that the page then tells what one that was made alike and never asked tells. */
+    void refuses(String want, String what, Pages.Maker maker, Use call) {
+        Springleaf page = maker.make();
+        throwing(what, want, () -> call.on(page));
+        compare(what + " and then all that the page tells", Pages.state(maker.make()), Pages.state(page));
+    }
+
     void compare(String what, String want, String got) {
         calls++;
         if (!want.equals(got)) {
             wrong++;
             System.out.println(what + " answered " + got + ", due is " + want);
         }
+    }
+
+    int calls() {
+        return calls;
     }
 
     void end() {

@@ -107,19 +107,16 @@ public final class FoldsTest {
     }
 
     private static void promise05AngleAnew() {
-        Springleaf page = new Springleaf();
-        page.fold(0, 3, 10);
-        page.fold(1, 5, -30);
-        page.fold(0, 8, 90);
-        page.fold(3, 1, -45);
-        page.fold(2, 7, 33);
         for (int fold = 0; fold < 6; fold++) {
+            // A page of its own for each fold, since nothing is promised behind 512 calls.
+            Springleaf page = pageOfSixFolds();
             for (int open = 0; open <= 180; open++) {
                 int f = fold;
                 int o = open;
                 check.due("angleAnew(" + f + ", " + o + ")", page.angle(f, o), () -> page.angleAnew(f, o));
             }
         }
+        Springleaf page = pageOfSixFolds();
         check.due("angleAnew(2, 100)", 76, () -> page.angleAnew(2, 100));
         check.due("angleAnew(3, 44)", 178, () -> page.angleAnew(3, 44));
         check.due("angleAnew(3, 46)", 180, () -> page.angleAnew(3, 46));
@@ -128,6 +125,16 @@ public final class FoldsTest {
         check.throwing("angleAnew(5, 181)", Check.ARGUMENT, () -> page.angleAnew(5, 181));
         check.throwing("angleAnew(5, -1)", Check.ARGUMENT, () -> page.angleAnew(5, -1));
         check.throwing("angleAnew(5, MAX)", Check.ARGUMENT, () -> page.angleAnew(5, Integer.MAX_VALUE));
+    }
+
+    private static Springleaf pageOfSixFolds() {
+        Springleaf page = new Springleaf();
+        page.fold(0, 3, 10);
+        page.fold(1, 5, -30);
+        page.fold(0, 8, 90);
+        page.fold(3, 1, -45);
+        page.fold(2, 7, 33);
+        return page;
     }
 
     private static void promise16Tells() {
