@@ -12,12 +12,15 @@ public final class Springleaf {
     private static final int SHEET_WIDTH = 40;
     private static final int SHEET_HEIGHT = 30;
 
-    private final Folds folds = new Folds();
+    private final ArrayList<Fold> folds = new ArrayList<Fold>();
     private final ArrayList<Part> parts = new ArrayList<Part>();
-    private final Gluing gluing = new Gluing();
-    private final Layout layout = new Layout();
+    // Kept, so that asking for one sign after another makes no texts.
+    private final StringBuilder told = new StringBuilder();
+    private int gluedCount;
+    private int sheetCount;
 
     public Springleaf() {
+        folds.add(new Fold(0, null, 0, 0));
     }
 
     public int fold(int on, int pull, int lean)
@@ -26,10 +29,11 @@ public final class Springleaf {
         if (isOutside(pull, 1, 8) || isOutside(lean, -90, 90)) {
             throw new IllegalArgumentException("pull is 1 to 8, lean -90 to 90");
         }
-        if (folds.count >= MOST_FOLDS || isBound()) {
+        if (folds.size() >= MOST_FOLDS || isBound()) {
             throw new IllegalStateException("there are 12 folds, or the page is bound");
         }
-        return folds.add(on, pull, lean);
+        folds.add(new Fold(folds.size(), folds.get(on), pull, lean));
+        return folds.size() - 1;
     }
 
     public int part(int fold, int place, int length, int line, int lines, boolean eases)
@@ -42,45 +46,49 @@ public final class Springleaf {
         if (parts.size() >= MOST_PARTS || isBound()) {
             throw new IllegalStateException("there are 16 parts, or the page is bound");
         }
-        parts.add(new Part(fold, place, length, line, lines, eases));
+        parts.add(new Part(folds.get(fold), place, length, line, lines, eases));
         return parts.size() - 1;
     }
 
     public int angle(int fold, int open) throws IndexOutOfBoundsException, IllegalArgumentException {
         requireFold(fold);
         requireOpen(open);
-        return folds.anglesAt(open)[fold];
+        openTo(open);
+        return folds.get(fold).angle;
     }
 
     public int angleAnew(int fold, int open) throws IndexOutOfBoundsException, IllegalArgumentException {
         requireFold(fold);
         requireOpen(open);
-        return folds.anglesByStepsTo(open)[fold];
+        openByDegreesTo(open);
+        return folds.get(fold).angle;
     }
 
     public int where(int part, int open, int what) throws IndexOutOfBoundsException, IllegalArgumentException {
         requirePart(part);
         requireOpen(open);
         requireWhat(what);
+        openTo(open);
         Part it = parts.get(part);
-        int angle = folds.anglesAt(open)[it.fold];
         if (what == 0) {
-            return it.rise(angle);
+            return it.rise();
         }
-        return what == 1 ? it.spanStart(angle) : it.spanEnd(angle);
+        return what == 1 ? it.spanStart() : it.spanEnd();
     }
 
     public boolean meet(int part, int other, int open) throws IndexOutOfBoundsException, IllegalArgumentException {
         requirePart(part);
         requirePart(other);
         requireOpen(open);
-        return part != other && doMeet(parts.get(part), parts.get(other), folds.anglesAt(open));
+        openTo(open);
+        return part != other && parts.get(part).meets(parts.get(other));
     }
 
     public int test() {
         // Closing passes the same angles again, so what jams is known once the page is open.
         for (int open = 0; open <= WIDE_OPEN; open += TESTER_STEP) {
-            int part = firstThatMeetsAnother(open);
+            openTo(open);
+            int part = firstThatMeetsAnother();
             if (part != NONE) {
                 return 1000 * part + open;
             }
@@ -90,37 +98,40 @@ public final class Springleaf {
 
     public int sheets() {
         layAllParts();
-        return layout.sheetCount;
+        return sheetCount;
     }
 
     public int laid(int part, int what) throws IndexOutOfBoundsException, IllegalArgumentException {
         requirePart(part);
         requireWhat(what);
         layAllParts();
+        Part it = parts.get(part);
         if (what == 0) {
-            return layout.partSheet[part];
+            return it.sheet;
         }
-        return what == 1 ? layout.partLeft[part] : layout.partTop[part];
+        return what == 1 ? it.left : it.top;
     }
 
     public int glue(int part) throws IndexOutOfBoundsException, IllegalStateException {
         requirePart(part);
-        if (gluing.stepOf(part) != NONE) {
+        Part it = parts.get(part);
+        if (it.isGlued()) {
             throw new IllegalStateException("the part is glued");
         }
-        Part it = parts.get(part);
         if (isStartCovered(it) || !hasHold(it)) {
             throw new IllegalStateException("the part cannot be glued");
         }
-        return gluing.push(part);
+        it.step = gluedCount;
+        gluedCount++;
+        return gluedCount;
     }
 
     public int unglue() throws IllegalStateException {
-        if (gluing.count == 0) {
+        if (gluedCount == 0) {
             throw new IllegalStateException("no part is glued");
         }
-        int last = gluing.partAt(gluing.count - 1);
-        gluing.cutTo(gluing.count - 1);
+        int last = partGluedAt(gluedCount - 1);
+        unglueFrom(gluedCount - 1);
         return last;
     }
 
@@ -128,19 +139,19 @@ public final class Springleaf {
         if (step < 0) {
             throw new IndexOutOfBoundsException("there is no such step");
         }
-        return gluing.partAt(step);
+        return partGluedAt(step);
     }
 
     public int resize(int part, int length) throws IndexOutOfBoundsException, IllegalArgumentException {
         requirePart(part);
         requireLength(length);
-        parts.get(part).length = length;
-        int step = gluing.stepOf(part);
-        return step == NONE ? 0 : gluing.cutTo(step);
+        Part it = parts.get(part);
+        it.length = length;
+        return it.isGlued() ? unglueFrom(it.step) : 0;
     }
 
     public boolean isBound() {
-        return !parts.isEmpty() && gluing.count == parts.size() && test() == NONE;
+        return !parts.isEmpty() && gluedCount == parts.size() && test() == NONE;
     }
 
     public char tells(int fold, int place) throws IndexOutOfBoundsException {
@@ -148,11 +159,12 @@ public final class Springleaf {
         if (place < 0) {
             throw new IndexOutOfBoundsException("there is no such place");
         }
-        return folds.signAt(fold, place);
+        tellAll(folds.get(fold));
+        return place < told.length() ? told.charAt(place) : (char) 0;
     }
 
     private void requireFold(int fold) {
-        if (isOutside(fold, 0, folds.count - 1)) {
+        if (isOutside(fold, 0, folds.size() - 1)) {
             throw new IndexOutOfBoundsException("there is no such fold");
         }
     }
@@ -185,12 +197,34 @@ public final class Springleaf {
         return value < least || value > most;
     }
 
-    private int firstThatMeetsAnother(int open) {
-        int[] angles = folds.anglesAt(open);
+    private void openTo(int open) {
+        // A fold hangs on an earlier one, whose angle is found by then.
+        for (int fold = 0; fold < folds.size(); fold++) {
+            folds.get(fold).openTo(open);
+        }
+    }
+
+    private void openByDegreesTo(int open) {
+        openTo(0);
+        for (int degree = 1; degree <= open; degree++) {
+            for (int fold = 0; fold < folds.size(); fold++) {
+                folds.get(fold).openOneDegree();
+            }
+        }
+    }
+
+    private void tellAll(Fold fold) {
+        told.setLength(0);
+        for (Fold teller = fold; teller != null; teller = teller.on) {
+            teller.tellTo(told);
+        }
+    }
+
+    private int firstThatMeetsAnother() {
         for (int part = 0; part < parts.size(); part++) {
             // Meeting goes both ways, so a part that meets an earlier one is not the first.
             for (int other = part + 1; other < parts.size(); other++) {
-                if (doMeet(parts.get(part), parts.get(other), angles)) {
+                if (parts.get(part).meets(parts.get(other))) {
                     return part;
                 }
             }
@@ -198,33 +232,10 @@ public final class Springleaf {
         return NONE;
     }
 
-    private static boolean doMeet(Part part, Part other, int[] angles) {
-        int angle = angles[part.fold];
-        int otherAngle = angles[other.fold];
-        int rise = part.rise(angle);
-        int otherRise = other.rise(otherAngle);
-        return part.sharesLineWith(other)
-                && part.spanStart(angle) <= other.spanEnd(otherAngle)
-                && other.spanStart(otherAngle) <= part.spanEnd(angle)
-                && rise > 0 && otherRise > 0
-                && Math.abs(rise - otherRise) <= 1;
-    }
-
-    private void layAllParts() {
-        layout.clear();
-        for (int part = 0; part < parts.size(); part++) {
-            Part it = parts.get(part);
-            layout.lay(part, it.pieceWidth(), it.pieceHeight());
-        }
-    }
-
     private boolean isStartCovered(Part part) {
-        int[] angles = folds.anglesAt(WIDE_OPEN);
-        for (int step = 0; step < gluing.count; step++) {
-            Part below = parts.get(gluing.partAt(step));
-            int angle = angles[below.fold];
-            if (below.sharesLineWith(part)
-                    && below.spanStart(angle) <= part.place && part.place <= below.spanEnd(angle)) {
+        openTo(WIDE_OPEN);
+        for (int other = 0; other < parts.size(); other++) {
+            if (parts.get(other).isGlued() && parts.get(other).coversStartOf(part)) {
                 return true;
             }
         }
@@ -232,99 +243,170 @@ public final class Springleaf {
     }
 
     private boolean hasHold(Part part) {
-        if (part.fold == 0) {
+        if (part.fold.on == null) {
             return true;
         }
-        int holder = folds.on[part.fold];
-        for (int step = 0; step < gluing.count; step++) {
-            if (parts.get(gluing.partAt(step)).fold == holder) {
+        for (int other = 0; other < parts.size(); other++) {
+            if (parts.get(other).isGlued() && parts.get(other).fold == part.fold.on) {
                 return true;
             }
         }
         return false;
     }
 
-    /** The folds by numbers; each hangs on an earlier one, so one pass upwards finds all angles. */
-    private static final class Folds {
-        final int[] on = new int[MOST_FOLDS];
-        final int[] pull = new int[MOST_FOLDS];
-        final int[] lean = new int[MOST_FOLDS];
-        int count = 1;
-        // These are used again by each call, so that asking for angles or signs makes no objects.
-        final int[] angles = new int[MOST_FOLDS];
-        final int[] pulled = new int[MOST_FOLDS];
-        final int[] growth = new int[MOST_FOLDS];
-        final StringBuilder text = new StringBuilder();
-
-        int add(int newOn, int newPull, int newLean) {
-            on[count] = newOn;
-            pull[count] = newPull;
-            lean[count] = newLean;
-            count++;
-            return count - 1;
-        }
-
-        int[] anglesAt(int open) {
-            angles[0] = open;
-            for (int fold = 1; fold < count; fold++) {
-                pulled[fold] = angles[on[fold]] * pull[fold];
-                angles[fold] = angleOfPulled(fold);
-            }
-            return angles;
-        }
-
-        int[] anglesByStepsTo(int open) {
-            anglesAt(0);
-            for (int degree = 1; degree <= open; degree++) {
-                openOneDegree();
-            }
-            return angles;
-        }
-
-        void openOneDegree() {
-            growth[0] = 1;
-            angles[0]++;
-            for (int fold = 1; fold < count; fold++) {
-                pulled[fold] += growth[on[fold]] * pull[fold];
-                growth[fold] = angleOfPulled(fold) - angles[fold];
-                angles[fold] += growth[fold];
+    private int partGluedAt(int step) {
+        for (int part = 0; part < parts.size(); part++) {
+            if (parts.get(part).step == step) {
+                return part;
             }
         }
+        return NONE;
+    }
 
-        int angleOfPulled(int fold) {
-            int angle = Math.floorDiv(pulled[fold], 4) + lean[fold];
-            return Math.max(0, Math.min(WIDE_OPEN, angle));
-        }
-
-        char signAt(int fold, int place) {
-            text.setLength(0);
-            int teller = fold;
-            for (int told = 0; told < MOST_FOLDS && teller > 0; told++) {
-                writeHanging(teller);
-                teller = on[teller];
+    private int unglueFrom(int step) {
+        for (int part = 0; part < parts.size(); part++) {
+            if (parts.get(part).step >= step) {
+                parts.get(part).step = NONE;
             }
-            text.append("f0");
-            return place < text.length() ? text.charAt(place) : (char) 0;
         }
+        int unglued = gluedCount - step;
+        gluedCount = step;
+        return unglued;
+    }
 
-        void writeHanging(int fold) {
-            text.append('f').append(fold);
-            text.append('*').append(pull[fold]);
-            text.append(lean[fold] < 0 ? '-' : '+').append(Math.abs(lean[fold]));
-            text.append(" on ");
+    private void layAllParts() {
+        sheetCount = 0;
+        for (int part = 0; part < parts.size(); part++) {
+            parts.get(part).shelfHeight = 0;
+        }
+        for (int part = 0; part < parts.size(); part++) {
+            lay(parts.get(part));
         }
     }
 
-    /** A part; each angle that its methods take is that of its fold. */
+    private void lay(Part part) {
+        Part first = firstOfShelfFor(part);
+        if (first == null) {
+            beginShelf(part);
+            first = part;
+        }
+        part.sheet = first.sheet;
+        part.left = first.shelfFilled;
+        part.top = first.top;
+        first.shelfFilled += part.pieceWidth();
+    }
+
+    private Part firstOfShelfFor(Part part) {
+        // Parts keep the order in which shelves were begun: an earlier sheet may have a later shelf.
+        for (int sheet = 0; sheet < sheetCount; sheet++) {
+            for (int other = 0; other < parts.size(); other++) {
+                Part first = parts.get(other);
+                if (first.sheet == sheet && first.shelfHeight >= part.pieceHeight()
+                        && SHEET_WIDTH - first.shelfFilled >= part.pieceWidth()) {
+                    return first;
+                }
+            }
+        }
+        return null;
+    }
+
+    private void beginShelf(Part part) {
+        part.sheet = sheetForShelf(part.pieceHeight());
+        part.top = filledHeight(part.sheet);
+        part.shelfHeight = part.pieceHeight();
+        part.shelfFilled = 0;
+    }
+
+    private int sheetForShelf(int height) {
+        for (int sheet = 0; sheet < sheetCount; sheet++) {
+            if (SHEET_HEIGHT - filledHeight(sheet) >= height) {
+                return sheet;
+            }
+        }
+        sheetCount++;
+        return sheetCount - 1;
+    }
+
+    private int filledHeight(int sheet) {
+        int filled = 0;
+        for (int part = 0; part < parts.size(); part++) {
+            if (parts.get(part).sheet == sheet) {
+                filled += parts.get(part).shelfHeight;
+            }
+        }
+        return filled;
+    }
+
+    /** A fold. Each call that needs angles opens the page anew first, so none relies on what another one left here. */
+    private static final class Fold {
+        final int number;
+        // The fold on which it hangs, null for fold 0.
+        final Fold on;
+        final int pull;
+        final int lean;
+        int angle;
+        int pulled;
+        int growth;
+
+        Fold(int number, Fold on, int pull, int lean) {
+            this.number = number;
+            this.on = on;
+            this.pull = pull;
+            this.lean = lean;
+        }
+
+        void openTo(int open) {
+            if (on == null) {
+                angle = open;
+            } else {
+                pulled = on.angle * pull;
+                angle = angleOfPulled();
+            }
+        }
+
+        void openOneDegree() {
+            int before = angle;
+            if (on == null) {
+                angle++;
+            } else {
+                pulled += on.growth * pull;
+                angle = angleOfPulled();
+            }
+            growth = angle - before;
+        }
+
+        int angleOfPulled() {
+            return Math.max(0, Math.min(WIDE_OPEN, Math.floorDiv(pulled, 4) + lean));
+        }
+
+        void tellTo(StringBuilder text) {
+            text.append('f').append(number);
+            if (on != null) {
+                text.append('*').append(pull);
+                text.append(lean < 0 ? '-' : '+').append(Math.abs(lean));
+                text.append(" on ");
+            }
+        }
+    }
+
+    /** A part; what it rises to and its span are those at the angle that its fold has now. */
     private static final class Part {
-        final int fold;
+        final Fold fold;
         final int place;
         final int line;
         final int lines;
         final boolean eases;
         int length;
+        // Which one it was in the order of gluing, NONE while it is not glued.
+        int step = NONE;
+        int sheet;
+        int left;
+        int top;
+        // Of the shelf that it began; the height is 0 if it began none.
+        int shelfHeight;
+        int shelfFilled;
 
-        Part(int fold, int place, int length, int line, int lines, boolean eases) {
+        Part(Fold fold, int place, int length, int line, int lines, boolean eases) {
             this.fold = fold;
             this.place = place;
             this.length = length;
@@ -333,25 +415,40 @@ public final class Springleaf {
             this.eases = eases;
         }
 
-        int rise(int angle) {
-            return length * Math.min(angle, WIDE_OPEN - angle) / 90;
+        boolean isGlued() {
+            return step != NONE;
         }
 
-        int reach(int angle) {
+        int rise() {
+            return length * Math.min(fold.angle, WIDE_OPEN - fold.angle) / 90;
+        }
+
+        int reach() {
             // Java's division rounds toward 0, as the document asks, also where a fold is past upright.
-            return place + length * (UPRIGHT - angle) / 90;
+            return place + length * (UPRIGHT - fold.angle) / 90;
         }
 
-        int spanStart(int angle) {
-            return Math.min(place, reach(angle));
+        int spanStart() {
+            return Math.min(place, reach());
         }
 
-        int spanEnd(int angle) {
-            return Math.max(place, reach(angle));
+        int spanEnd() {
+            return Math.max(place, reach());
         }
 
         boolean sharesLineWith(Part other) {
             return line < other.line + other.lines && other.line < line + lines;
+        }
+
+        boolean meets(Part other) {
+            return sharesLineWith(other)
+                    && spanStart() <= other.spanEnd() && other.spanStart() <= spanEnd()
+                    && rise() > 0 && other.rise() > 0
+                    && Math.abs(rise() - other.rise()) <= 1;
+        }
+
+        boolean coversStartOf(Part other) {
+            return sharesLineWith(other) && spanStart() <= other.place && other.place <= spanEnd();
         }
 
         int pieceWidth() {
@@ -360,110 +457,6 @@ public final class Springleaf {
 
         int pieceHeight() {
             return eases ? lines : length;
-        }
-    }
-
-    /** The glued parts in the order of their gluing; none is glued twice, so a row of 16 holds all. */
-    private static final class Gluing {
-        final int[] order = new int[MOST_PARTS];
-        int count;
-
-        int push(int part) {
-            order[count] = part;
-            count++;
-            return count;
-        }
-
-        int cutTo(int steps) {
-            int dropped = count - steps;
-            count = steps;
-            return dropped;
-        }
-
-        int partAt(int step) {
-            return step >= 0 && step < count ? order[step] : NONE;
-        }
-
-        int stepOf(int part) {
-            for (int step = 0; step < count; step++) {
-                if (order[step] == part) {
-                    return step;
-                }
-            }
-            return NONE;
-        }
-    }
-
-    /** Parts on sheets; a part begins at most one shelf and one sheet, so rows of 16 hold all. */
-    private static final class Layout {
-        final int[] partSheet = new int[MOST_PARTS];
-        final int[] partLeft = new int[MOST_PARTS];
-        final int[] partTop = new int[MOST_PARTS];
-        final int[] shelfSheet = new int[MOST_PARTS];
-        final int[] shelfTop = new int[MOST_PARTS];
-        final int[] shelfHeight = new int[MOST_PARTS];
-        final int[] shelfFilled = new int[MOST_PARTS];
-        final int[] sheetFilled = new int[MOST_PARTS];
-        int shelfCount;
-        int sheetCount;
-
-        void clear() {
-            shelfCount = 0;
-            sheetCount = 0;
-        }
-
-        void lay(int part, int width, int height) {
-            int shelf = firstShelfFor(width, height);
-            if (shelf == NONE) {
-                shelf = beginShelf(height);
-            }
-            partSheet[part] = shelfSheet[shelf];
-            partLeft[part] = shelfFilled[shelf];
-            partTop[part] = shelfTop[shelf];
-            shelfFilled[shelf] += width;
-        }
-
-        int firstShelfFor(int width, int height) {
-            // Shelves are kept as they were begun: an earlier sheet may have a later shelf.
-            for (int sheet = 0; sheet < sheetCount; sheet++) {
-                for (int shelf = 0; shelf < shelfCount; shelf++) {
-                    if (shelfSheet[shelf] == sheet && shelfHeight[shelf] >= height
-                            && SHEET_WIDTH - shelfFilled[shelf] >= width) {
-                        return shelf;
-                    }
-                }
-            }
-            return NONE;
-        }
-
-        int beginShelf(int height) {
-            int sheet = firstSheetFor(height);
-            if (sheet == NONE) {
-                sheet = beginSheet();
-            }
-            int shelf = shelfCount;
-            shelfCount++;
-            shelfSheet[shelf] = sheet;
-            shelfTop[shelf] = sheetFilled[sheet];
-            shelfHeight[shelf] = height;
-            shelfFilled[shelf] = 0;
-            sheetFilled[sheet] += height;
-            return shelf;
-        }
-
-        int firstSheetFor(int height) {
-            for (int sheet = 0; sheet < sheetCount; sheet++) {
-                if (SHEET_HEIGHT - sheetFilled[sheet] >= height) {
-                    return sheet;
-                }
-            }
-            return NONE;
-        }
-
-        int beginSheet() {
-            sheetFilled[sheetCount] = 0;
-            sheetCount++;
-            return sheetCount - 1;
         }
     }
 }

@@ -11,7 +11,9 @@ public final class LanguageTest {
         "->", "::", "\\b(try|catch|finally|synchronized|assert|package)\\b", "\\bstatic\\s*\\{",
         "\\b(Object|HashMap|LinkedList|Random|System\\.(out|err|in|nano|current)\\w*|Thread)\\b", "Exact\\(",
         "import (?!java\\.util\\.ArrayList;)", "\\b(equals|hashCode|toString)\\(", "[^\\x00-\\x7f]",
-        "throw new (?!(IndexOutOfBounds|IllegalArgument|IllegalState)Exception\\()"};
+        "throw new (?!(IndexOutOfBounds|IllegalArgument|IllegalState)Exception\\()",
+        // The rules allow more than these three; they leave no index, divisor or cast that needs a test before it.
+        "\\[", "[/%](?! 90;)", "\\((?!char\\) 0)\\w+\\) \\w"};
 
     public static void main(String[] args) throws IOException {
         Check check = new Check();

@@ -204,6 +204,12 @@ final class SheetEdges {
         check.due("sheets() of 16 pieces 21 high", 4, () -> high.sheets());
         high.resize(15, 30);
         check.due("sheets() with the last one 30 high", 5, () -> high.sheets());
+        high.resize(15, 21);
+        check.due("sheets() with the last one 21 high again", 4, () -> high.sheets());
+        for (int part = 0; part < 16; part++) {
+            high.resize(part, 1);
+        }
+        check.due("sheets() with all of them 1 high", 1, () -> high.sheets());
     }
 
     @Says(section = "Promise 10", words = "Tells where a part is laid")
